@@ -21,8 +21,8 @@ public final class StageMachine {
     private static final int MOST_CAP = 500;
 
     private final Player player;
-    private int frames;
-    private int instructionsDone;
+    private int frames = 0;
+    private int instructionsDone = 0;
 
     public StageMachine() {
         player = new Player();
@@ -280,20 +280,48 @@ public final class StageMachine {
             int code = nextByte();
             if (code <= SHR) {
                 compute(code);
-            } else if (code <= RET) {
-                goElsewhere(code, own);
-            } else if (code == LOOP) {
-                loop();
-            } else if (code == IF) {
-                jumpIf(own);
-            } else if (code <= EACH) {
-                steerChannels(code, own);
-            } else if (code <= SHOW) {
-                handlePages(code);
-            } else if (code == DRAW) {
-                draw();
-            } else {
-                fail(own, NO_SUCH_INSTRUCTION);
+                return;
+            }
+            switch (code) {
+                case JUMP:
+                    at = nextAddress();
+                    break;
+                case CALL:
+                    callAddress(own);
+                    break;
+                case RET:
+                    comeBack(own);
+                    break;
+                case LOOP:
+                    loop();
+                    break;
+                case IF:
+                    jumpIf(own);
+                    break;
+                case YIELD:
+                    goingOn = false;
+                    break;
+                case KILL:
+                    end();
+                    break;
+                case START:
+                    startOther();
+                    break;
+                case EACH:
+                    askOfEach(own);
+                    break;
+                case PAGE:
+                case FILL:
+                case COPY:
+                case SHOW:
+                    handlePages(code);
+                    break;
+                case DRAW:
+                    draw();
+                    break;
+                default:
+                    fail(own, NO_SUCH_INSTRUCTION);
+                    break;
             }
         }
 
@@ -330,21 +358,21 @@ public final class StageMachine {
             }
         }
 
-        private void goElsewhere(int code, Channel own) {
-            if (code == RET) {
-                int back = own.popReturn();
-                if (back == NONE) {
-                    fail(own, PILE_IS_EMPTY);
-                } else {
-                    at = back;
-                }
-                return;
-            }
+        private void callAddress(Channel own) {
             int target = nextAddress();
-            if (code == CALL && !own.pushReturn(at)) {
-                fail(own, PILE_IS_FULL);
-            } else {
+            if (own.pushReturn(at)) {
                 at = target;
+            } else {
+                fail(own, PILE_IS_FULL);
+            }
+        }
+
+        private void comeBack(Channel own) {
+            int back = own.popReturn();
+            if (back == NONE) {
+                fail(own, PILE_IS_EMPTY);
+            } else {
+                at = back;
             }
         }
 
@@ -396,22 +424,9 @@ public final class StageMachine {
             }
         }
 
-        private void steerChannels(int code, Channel own) {
-            switch (code) {
-                case YIELD:
-                    goingOn = false;
-                    break;
-                case KILL:
-                    end();
-                    break;
-                case START:
-                    int k = nextByte() & 15;
-                    channels[k].askedAddress = nextAddress();
-                    break;
-                default:
-                    askOfEach(own);
-                    break;
-            }
+        private void startOther() {
+            int k = nextByte() & 15;
+            channels[k].askedAddress = nextAddress();
         }
 
         private void askOfEach(Channel own) {
@@ -524,7 +539,7 @@ public final class StageMachine {
         }
 
         /** A given colour of NONE leaves polygons their own; around is how many groups it is in. */
-        void drawShape(int address, int x, int y, int zoom, int given, int around) {
+        private void drawShape(int address, int x, int y, int zoom, int given, int around) {
             if (begunInDraw >= MOST_BEGUN) {
                 return;
             }

@@ -12,6 +12,7 @@ final class ShapeTest {
         greatZoom(check);
         rowsThatAreNone(check);
         countsOfPairs(check);
+        pairsOfOtherPolygonsAreForgotten(check);
         groupsPlaceParts(check);
         groupColours(check);
         groupsInGroups(check);
@@ -202,6 +203,17 @@ final class ShapeTest {
             check.due("pixels of n " + n, pixels(m, 5), 11 * Math.max(0, pairs - 1));
             check.due("shapes of n " + n, m.about(5), 1);
         }
+    }
+
+    private static void pairsOfOtherPolygonsAreForgotten(Check check) {
+        StageMachine m = new StageMachine();
+        Load.shapes(m, 0, 0xC5, 0, 0, 3, 1, 0, 1, 1, 1, 30, 0, 0, 0);
+        Load.shapes(m, 20, 0xC8, 0, 0, 2, 1, 0, 1, 1, 0, 0);
+        draw(m, 0, 10, 5);
+        check.due("rows of three pairs", m.about(4), 30);
+        draw(m, 20, 40, 5);
+        check.due("rows of two pairs", m.about(4), 1);
+        check.due("pixels of two pairs", pixels(m, 8), 2);
     }
 
     private static void groupsPlaceParts(Check check) {
