@@ -10,7 +10,7 @@ final class AboutTest {
     }
 
     private static void wrongArguments(Check check) {
-        StageMachine m = Load.ran(Load.YIELD);
+        Stage m = Load.ran(Load.YIELD);
         for (int what : Load.EXTREMES) {
             if (what < 0 || what > 5) {
                 check.due("about(" + what + ")", m.about(what), -1);
@@ -19,12 +19,12 @@ final class AboutTest {
     }
 
     /** A square of four by four pixels, at x, y less two each. */
-    private static void square(StageMachine m, int address) {
+    private static void square(Stage m, int address) {
         Load.shapes(m, address, 0xC9, 4, 4, 2, 3, 0, 3, 4, 0, 0);
     }
 
     private static void countsOfTheLatestFrame(Check check) {
-        StageMachine m = new StageMachine();
+        Stage m = new Stage();
         square(m, 0);
         m.set(1, 10);
         m.set(2, 10);
@@ -44,7 +44,7 @@ final class AboutTest {
     }
 
     private static void countsOverAllChannels(Check check) {
-        StageMachine m = new StageMachine();
+        Stage m = new Stage();
         square(m, 0);
         m.set(1, 10);
         Load.program(m, 0, Load.DRAW, 0, 0, 1, 1, 255, 99);
@@ -63,7 +63,7 @@ final class AboutTest {
             {10, -2, 0}, {10, -1, 1}, {10, 0, 2}, {10, 41, 1}, {10, 42, 0}, {-1, -1, 1}, {32767, 32767, 0}
         };
         for (int[] place : places) {
-            StageMachine m = new StageMachine();
+            Stage m = new Stage();
             square(m, 0);
             m.set(1, place[0]);
             m.set(2, place[1]);

@@ -10,7 +10,7 @@ final class AskTest {
     }
 
     private static void asksForTheNextFrame(Check check) {
-        StageMachine m = new StageMachine();
+        Stage m = new Stage();
         Load.program(m, 1023, Load.YIELD);
         Load.program(m, 0, Load.YIELD);
         check.due("ask(15, 1023)", m.ask(15, 1023), true);
@@ -31,7 +31,7 @@ final class AskTest {
     }
 
     private static void latestAskingCounts(Check check) {
-        StageMachine m = new StageMachine();
+        Stage m = new Stage();
         m.ask(2, 10);
         m.ask(2, 20);
         check.due("latest asked", m.channel(2, 4), 20);
@@ -43,7 +43,7 @@ final class AskTest {
         check.due("one turn", m.frame(1), 1);
         check.due("behind SET at 40", m.channel(2, 0), 44);
         // A START of the frame before and an ask are of one kind.
-        StageMachine other = Load.ran(Load.START, 3, 0, 50, Load.YIELD);
+        Stage other = Load.ran(Load.START, 3, 0, 50, Load.YIELD);
         check.due("asked by START", other.channel(3, 4), 50);
         other.ask(3, 60);
         check.due("asked by ask", other.channel(3, 4), 60);
@@ -52,7 +52,7 @@ final class AskTest {
     }
 
     private static void askingEmptiesThePile(Check check) {
-        StageMachine m = Load.ran(Load.CALL, 0, 3, Load.CALL, 0, 6, Load.YIELD, Load.KILL);
+        Stage m = Load.ran(Load.CALL, 0, 3, Load.CALL, 0, 6, Load.YIELD, Load.KILL);
         check.due("returns", m.channel(0, 2), 2);
         m.ask(0, 6);
         check.due("returns before the frame", m.channel(0, 2), 2);
@@ -68,7 +68,7 @@ final class AskTest {
     private static void wrongArguments(Check check) {
         for (int k : Load.EXTREMES) {
             for (int address : Load.EXTREMES) {
-                StageMachine m = new StageMachine();
+                Stage m = new Stage();
                 boolean right = k >= 0 && k < 16 && address >= -1 && address < 1024;
                 check.due("ask(" + k + ", " + address + ")", m.ask(k, address), right);
                 for (int other = 0; other < 16; other++) {

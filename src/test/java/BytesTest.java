@@ -9,7 +9,7 @@ final class BytesTest {
     }
 
     private static void highestByteComesFirst(Check check) {
-        StageMachine m = new StageMachine();
+        Stage m = new Stage();
         for (int which = 0; which < 2; which++) {
             int v = which == 0 ? 0x01FE7F80 : 0xFF020304;
             check.due("put(" + which + ", 5, ..)", m.put(which, 5, v), true);
@@ -25,7 +25,7 @@ final class BytesTest {
     }
 
     private static void edgesOfTheBytes(Check check) {
-        StageMachine m = new StageMachine();
+        Stage m = new Stage();
         for (int which = 0; which < 2; which++) {
             check.due("put(.., 0, ..)", m.put(which, 0, 0x11223344), true);
             check.due("put(.., 1020, ..)", m.put(which, 1020, 0xA1A2A3A4), true);
@@ -44,8 +44,8 @@ final class BytesTest {
     }
 
     private static void wrongArguments(Check check) {
-        StageMachine m = new StageMachine();
         for (int a : Load.EXTREMES) {
+            Stage m = new Stage();
             for (int b : Load.EXTREMES) {
                 boolean bytes = a == 0 || a == 1;
                 check.due("put(" + a + ", " + b + ", -1)", m.put(a, b, -1), bytes && b >= 0 && b <= 1020);

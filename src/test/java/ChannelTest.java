@@ -13,7 +13,7 @@ final class ChannelTest {
     }
 
     private static void wrongArguments(Check check) {
-        StageMachine m = Load.ran(Load.YIELD);
+        Stage m = Load.ran(Load.YIELD);
         for (int k : Load.EXTREMES) {
             for (int what : Load.EXTREMES) {
                 boolean right = k >= 0 && k < 16 && what >= 0 && what <= 4;
@@ -26,7 +26,7 @@ final class ChannelTest {
     }
 
     private static void faultsStay(Check check) {
-        StageMachine m = Load.ran(Load.RET);
+        Stage m = Load.ran(Load.RET);
         check.due("fault", m.channel(0, 3), 2);
         check.due("address", m.channel(0, 0), -1);
         check.due("fault of another", m.channel(1, 3), 0);
@@ -41,7 +41,7 @@ final class ChannelTest {
     }
 
     private static void killKeepsThePile(Check check) {
-        StageMachine m = Load.ran(Load.CALL, 0, 3, Load.KILL);
+        Stage m = Load.ran(Load.CALL, 0, 3, Load.KILL);
         check.due("returns", m.channel(0, 2), 1);
         check.due("address", m.channel(0, 0), -1);
         m.frame(5);
@@ -52,7 +52,7 @@ final class ChannelTest {
     }
 
     private static void eachAsks(Check check) {
-        StageMachine m = Load.ran(Load.EACH, 2, 4, 1, Load.EACH, 9, 8, 1, Load.EACH, 15, 15, 1,
+        Stage m = Load.ran(Load.EACH, 2, 4, 1, Load.EACH, 9, 8, 1, Load.EACH, 15, 15, 1,
             Load.EACH, 6, 6, 2, Load.YIELD);
         check.due("asked for 5", m.channel(5, 4), -2);
         check.due("asked for 6", m.channel(6, 4), -1);
@@ -63,7 +63,7 @@ final class ChannelTest {
             int want = k >= 2 && k <= 4 || k == 15 ? 1 : 0;
             check.due("paused " + k, m.channel(k, 1), want);
         }
-        StageMachine all = Load.ran(Load.EACH, 0, 15, 2, Load.YIELD, Load.YIELD);
+        Stage all = Load.ran(Load.EACH, 0, 15, 2, Load.YIELD, Load.YIELD);
         for (int k = 0; k < 16; k++) {
             check.due("asked for " + k, all.channel(k, 4), -1);
         }
@@ -71,7 +71,7 @@ final class ChannelTest {
     }
 
     private static void eachReadsLowestBits(Check check) {
-        StageMachine m = Load.ran(Load.EACH, 0xF3, 0x25, 2, Load.START, 0xE7, 0xFC, 0x21, Load.YIELD);
+        Stage m = Load.ran(Load.EACH, 0xF3, 0x25, 2, Load.START, 0xE7, 0xFC, 0x21, Load.YIELD);
         for (int k = 0; k < 16; k++) {
             int want = k >= 3 && k <= 5 ? -1 : k == 7 ? 0x21 : -2;
             check.due("asked for " + k, m.channel(k, 4), want);
@@ -79,7 +79,7 @@ final class ChannelTest {
         // The asking is a whole byte, and is looked at though no channel is meant.
         int[] wrong = {3, 16, 128, 129, 130, 255};
         for (int asking : wrong) {
-            StageMachine f = Load.ran(Load.EACH, 1, 3, asking, Load.YIELD);
+            Stage f = Load.ran(Load.EACH, 1, 3, asking, Load.YIELD);
             check.due("fault of EACH 1 3 " + asking, f.channel(0, 3), 4);
             check.due("address", f.channel(0, 0), -1);
             check.due("asked", f.channel(2, 4), -2);
@@ -92,7 +92,7 @@ final class ChannelTest {
     }
 
     private static void askingsOfTwoKinds(Check check) {
-        StageMachine m = Load.ran(Load.START, 1, 0, 40, Load.EACH, 1, 1, 0, Load.EACH, 1, 1, 1, Load.YIELD);
+        Stage m = Load.ran(Load.START, 1, 0, 40, Load.EACH, 1, 1, 0, Load.EACH, 1, 1, 1, Load.YIELD);
         check.due("asked", m.channel(1, 4), 40);
         m.frame(1);
         check.due("address", m.channel(1, 0), 40);
@@ -112,7 +112,7 @@ final class ChannelTest {
 
     private static void startsItself(Check check) {
         // What is asked outlives a KILL or a fault of the same turn.
-        StageMachine m = Load.ran(Load.START, 0, 0, 40, Load.KILL);
+        Stage m = Load.ran(Load.START, 0, 0, 40, Load.KILL);
         check.due("address", m.channel(0, 0), -1);
         check.due("asked", m.channel(0, 4), 40);
         check.due("frame(1)", m.frame(1), 1);

@@ -13,7 +13,7 @@ final class FrameTest {
     }
 
     private static void wrongCapsDoNothing(Check check) {
-        StageMachine m = Load.ran(Load.ADDK, 1, 0, 1, Load.YIELD, Load.ADDK, 1, 0, 1, Load.YIELD);
+        Stage m = Load.ran(Load.ADDK, 1, 0, 1, Load.YIELD, Load.ADDK, 1, 0, 1, Load.YIELD);
         m.ask(4, 77);
         for (int cap : Load.EXTREMES) {
             if (cap < 1 || cap > 500) {
@@ -28,7 +28,7 @@ final class FrameTest {
     }
 
     private static void capEndsTurns(Check check) {
-        StageMachine m = new StageMachine();
+        Stage m = new Stage();
         Load.program(m, 0, Load.ADDK, 1, 0, 1, Load.JUMP, 0, 0);
         m.ask(0, 0);
         check.due("frame(1)", m.frame(1), 1);
@@ -48,7 +48,7 @@ final class FrameTest {
     }
 
     private static void capHoldsForEachChannel(Check check) {
-        StageMachine m = new StageMachine();
+        Stage m = new Stage();
         Load.program(m, 0, Load.ADDK, 1, 0, 1, Load.JUMP, 0, 0);
         for (int k = 0; k < 16; k++) {
             m.ask(k, 0);
@@ -59,7 +59,7 @@ final class FrameTest {
     }
 
     private static void channelsGoByNumbers(Check check) {
-        StageMachine m = new StageMachine();
+        Stage m = new Stage();
         for (int k = 0; k < 16; k++) {
             // Four bits of the order are kept: each adds its number to what it moves up.
             Load.program(m, 16 * k, Load.SHL, 0, 1, Load.ADDK, 0, 0, k & 1, Load.MOVE, 1 + k, 0, Load.YIELD);
@@ -74,7 +74,7 @@ final class FrameTest {
     }
 
     private static void askedForAllFirst(Check check) {
-        StageMachine m = new StageMachine();
+        Stage m = new Stage();
         // Channel 1 starts 0 and 2, pauses 3 and ends 4: all from the next frame on.
         Load.program(m, 0, Load.START, 0, 0, 100, Load.START, 2, 0, 100, Load.EACH, 3, 3, 1,
             Load.EACH, 4, 4, 2, Load.YIELD, Load.KILL);
@@ -95,7 +95,7 @@ final class FrameTest {
     }
 
     private static void pausedHaveNoTurn(Check check) {
-        StageMachine m = Load.ran(Load.EACH, 0, 2, 1, Load.YIELD, Load.ADDK, 1, 0, 1, Load.YIELD);
+        Stage m = Load.ran(Load.EACH, 0, 2, 1, Load.YIELD, Load.ADDK, 1, 0, 1, Load.YIELD);
         m.ask(1, 5);
         m.ask(3, 5);
         check.due("frame(9)", m.frame(9), 1);
@@ -113,7 +113,7 @@ final class FrameTest {
     }
 
     private static void turnsOfEndedChannelsCount(Check check) {
-        StageMachine m = new StageMachine();
+        Stage m = new Stage();
         Load.program(m, 0, Load.KILL, 99, Load.RET);
         m.ask(0, 0);
         m.ask(1, 1);

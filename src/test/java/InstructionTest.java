@@ -16,8 +16,8 @@ final class InstructionTest {
         check.finish();
     }
 
-    private static StageMachine with(int v, int w, int... program) {
-        StageMachine m = new StageMachine();
+    private static Stage with(int v, int w, int... program) {
+        Stage m = new Stage();
         m.set(1, v);
         m.set(2, w);
         return Load.run(m, program);
@@ -50,14 +50,14 @@ final class InstructionTest {
     }
 
     private static void variablesByLowestBits(Check check) {
-        StageMachine m = with(5, 7, Load.ADD, 0xE1, 0x42, Load.SET, 0xFF, 1, 2, Load.YIELD);
+        Stage m = with(5, 7, Load.ADD, 0xE1, 0x42, Load.SET, 0xFF, 1, 2, Load.YIELD);
         check.due("ADD", m.get(1), 12);
         check.due("SET", m.get(31), 258);
         check.due("address", m.channel(0, 0), 8);
     }
 
     private static void jumpsAndCalls(Check check) {
-        StageMachine m = new StageMachine();
+        Stage m = new Stage();
         Load.program(m, 0x145, Load.YIELD);
         Load.run(m, Load.JUMP, 0xFD, 0x45);
         check.due("JUMP by the lowest 10 bits", m.channel(0, 0), 0x146);
@@ -75,7 +75,7 @@ final class InstructionTest {
     }
 
     private static void pileFaults(Check check) {
-        StageMachine m = new StageMachine();
+        Stage m = new Stage();
         int[] calls = new int[25];
         for (int i = 0; i < 8; i++) {
             calls[3 * i] = Load.CALL;
@@ -93,7 +93,7 @@ final class InstructionTest {
         check.due("address", m.channel(0, 0), -1);
         check.due("done", m.about(3), 1);
         // The last return comes first, eight times, and then there is none.
-        m = new StageMachine();
+        m = new Stage();
         Load.program(m, 0, Load.LOOP, 1, 0, 8, Load.YIELD, Load.RET);
         Load.program(m, 8, Load.CALL, 0, 0, Load.ADDK, 2, 0, 1, Load.RET);
         m.set(1, 9);
@@ -115,7 +115,7 @@ final class InstructionTest {
     private static void loops(Check check) {
         int[][] from = {{1, 0, 0}, {2, 1, 1}, {0, -1, 1}, {-32768, 32767, 1}, {-5, -6, 1}};
         for (int[] row : from) {
-            StageMachine m = with(row[0], 0, Load.LOOP, 1, 0, 10, Load.YIELD);
+            Stage m = with(row[0], 0, Load.LOOP, 1, 0, 10, Load.YIELD);
             Load.program(m, 10, Load.YIELD);
             m.set(1, row[0]);
             m.ask(0, 0);
@@ -123,7 +123,7 @@ final class InstructionTest {
             check.due("LOOP of " + row[0], m.get(1), row[1]);
             check.due("LOOP of " + row[0] + " went", m.channel(0, 0), row[2] == 1 ? 11 : 5);
         }
-        StageMachine m = with(40, 0, Load.ADDK, 3, 0, 2, Load.LOOP, 0x81, 0, 0, Load.YIELD);
+        Stage m = with(40, 0, Load.ADDK, 3, 0, 2, Load.LOOP, 0x81, 0, 0, Load.YIELD);
         check.due("LOOP forty times", m.get(3), 80);
         check.due("done", m.about(3), 81);
     }
@@ -140,7 +140,7 @@ final class InstructionTest {
                 for (int w : NUMBERS) {
                     String of = "IF " + how + " of " + v + ", " + w;
                     boolean jumps = holds(how, v, w);
-                    StageMachine m = with(v, w, Load.IF, how | 128, 1, 2, 0, 7, y, y);
+                    Stage m = with(v, w, Load.IF, how | 128, 1, 2, 0, 7, y, y);
                     check.due(of + " by variable", m.channel(0, 0), jumps ? 8 : 7);
                     m = with(v, w, Load.IF, how | 0xF8, 0x21, 0x62, 0xFC, 7, y, y);
                     check.due(of + " by variable, other bits", m.channel(0, 0), jumps ? 8 : 7);
@@ -155,7 +155,7 @@ final class InstructionTest {
 
     private static void wrongComparisons(Check check) {
         for (int kind = 0; kind < 256; kind++) {
-            StageMachine m = with(0, 0, Load.IF, kind, 1, 0, 0, 0, Load.YIELD, Load.YIELD);
+            Stage m = with(0, 0, Load.IF, kind, 1, 0, 0, 0, Load.YIELD, Load.YIELD);
             check.due("fault of IF " + kind, m.channel(0, 3), (kind & 7) > 5 ? 3 : 0);
             if ((kind & 7) > 5) {
                 check.due("address", m.channel(0, 0), -1);
@@ -166,7 +166,7 @@ final class InstructionTest {
 
     private static void unknownInstructions(Check check) {
         for (int code = 0; code < 256; code++) {
-            StageMachine m = Load.ran(code, 0, 0, 0, 0, 0, Load.YIELD);
+            Stage m = Load.ran(code, 0, 0, 0, 0, 0, Load.YIELD);
             boolean unknown = code > 22;
             if (unknown) {
                 check.due("fault of " + code, m.channel(0, 3), 5);
@@ -179,19 +179,19 @@ final class InstructionTest {
     }
 
     private static void bytesGoRound(Check check) {
-        StageMachine m = new StageMachine();
+        Stage m = new Stage();
         Load.program(m, 1021, Load.SET, 4, 0x12, 0x34, Load.YIELD);
         m.ask(0, 1021);
         m.frame(9);
         check.due("SET over the end", m.get(4), 0x1234);
         check.due("address", m.channel(0, 0), 2);
-        m = new StageMachine();
+        m = new Stage();
         Load.program(m, 1022, Load.CALL, 0x01, 0x00, Load.YIELD);
         Load.program(m, 0x100, Load.RET);
         m.ask(0, 1022);
         m.frame(9);
         check.due("address behind CALL over the end", m.channel(0, 0), 2);
-        m = new StageMachine();
+        m = new Stage();
         Load.program(m, 1021, Load.CALL, 0x01, 0x00, Load.YIELD);
         Load.program(m, 0x100, Load.RET);
         m.ask(0, 1021);

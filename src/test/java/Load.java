@@ -12,37 +12,20 @@ final class Load {
     private Load() {
     }
 
-    static void program(StageMachine m, int address, int... bytes) {
-        write(m, 0, address, bytes);
+    static void program(Stage m, int address, int... bytes) {
+        m.write(0, address, bytes);
     }
 
-    static void shapes(StageMachine m, int address, int... bytes) {
-        write(m, 1, address, bytes);
-    }
-
-    /** Goes on at 0 behind 1023, and leaves all other bytes as they are. */
-    static void write(StageMachine m, int which, int address, int... bytes) {
-        for (int i = 0; i < bytes.length; i++) {
-            int to = (address + i) & 1023;
-            int base = to & ~3;
-            int word = 0;
-            for (int k = 0; k < 4; k++) {
-                int old = m.byteAt(which, base + k);
-                word = word << 8 | ((base + k == to ? bytes[i] : old) & 255);
-            }
-            if (!m.put(which, base, word)) {
-                throw new IllegalStateException("put refused " + base);
-            }
-        }
+    static void shapes(Stage m, int address, int... bytes) {
+        m.write(1, address, bytes);
     }
 
     /** A new object, with a program at 0 for channel 0 that has had one frame with the greatest cap. */
-    static StageMachine ran(int... bytes) {
-        StageMachine m = new StageMachine();
-        return run(m, bytes);
+    static Stage ran(int... bytes) {
+        return run(new Stage(), bytes);
     }
 
-    static StageMachine run(StageMachine m, int... bytes) {
+    static Stage run(Stage m, int... bytes) {
         program(m, 0, bytes);
         m.ask(0, 0);
         m.frame(500);

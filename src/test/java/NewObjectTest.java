@@ -2,7 +2,7 @@
 final class NewObjectTest {
     public static void main(String[] args) {
         Check check = new Check();
-        StageMachine m = new StageMachine();
+        Stage m = new Stage();
         for (int address = 0; address < 1024; address++) {
             check.due("byteAt(0, " + address + ")", m.byteAt(0, address), 0);
             check.due("byteAt(1, " + address + ")", m.byteAt(1, address), 0);
@@ -32,8 +32,8 @@ final class NewObjectTest {
     }
 
     private static void objectsShareNothing(Check check) {
-        StageMachine used = new StageMachine();
-        StageMachine fresh = new StageMachine();
+        Stage used = new Stage();
+        Stage fresh = new Stage();
         used.put(0, 0, Load.FILL << 24 | 7 << 8);
         used.put(1, 0, -1);
         used.set(3, 9);

@@ -12,7 +12,7 @@ final class PagesTest {
         check.finish();
     }
 
-    private static void allPixels(Check check, StageMachine m, int page, int colour) {
+    private static void allPixels(Check check, Stage m, int page, int colour) {
         for (int y = 0; y < 40; y++) {
             for (int x = 0; x < 64; x++) {
                 check.due("pixel(" + page + ", " + x + ", " + y + ")", m.pixel(page, x, y), colour);
@@ -21,7 +21,7 @@ final class PagesTest {
     }
 
     private static void fills(Check check) {
-        StageMachine m = Load.ran(Load.FILL, 0, 0xF1, Load.FILL, 3, 15, Load.FILL, 0x7D, 0x87, Load.YIELD);
+        Stage m = Load.ran(Load.FILL, 0, 0xF1, Load.FILL, 3, 15, Load.FILL, 0x7D, 0x87, Load.YIELD);
         int[] colours = {1, 7, 0, 15};
         for (int page = 0; page < 4; page++) {
             allPixels(check, m, page, colours[page]);
@@ -33,7 +33,7 @@ final class PagesTest {
     }
 
     private static void copies(Check check) {
-        StageMachine m = Load.ran(Load.FILL, 2, 9, Load.FILL, 1, 4, Load.COPY, 0, 2, Load.COPY, 3, 3,
+        Stage m = Load.ran(Load.FILL, 2, 9, Load.FILL, 1, 4, Load.COPY, 0, 2, Load.COPY, 3, 3,
             Load.COPY, 2, 1, Load.YIELD);
         int[] colours = {9, 4, 4, 0};
         for (int page = 0; page < 4; page++) {
@@ -48,7 +48,7 @@ final class PagesTest {
     private static void pageOperands(Check check) {
         for (int p = 0; p < 256; p++) {
             int want = p < 128 ? p & 3 : p == SHOWN ? 2 : 1;
-            StageMachine m = Load.ran(Load.PAGE, 1, Load.SHOW, 2, Load.FILL, p, 6, Load.YIELD);
+            Stage m = Load.ran(Load.PAGE, 1, Load.SHOW, 2, Load.FILL, p, 6, Load.YIELD);
             for (int page = 0; page < 4; page++) {
                 check.due("page " + page + " behind FILL " + p, m.pixel(page, 63, 39), page == want ? 6 : 0);
             }
@@ -63,14 +63,14 @@ final class PagesTest {
             m = Load.ran(Load.PAGE, 1, Load.SHOW, 2, Load.FILL, want, 8, Load.COPY, 3, p, Load.YIELD);
             check.due("COPY from " + p, m.pixel(3, 0, 0), 8);
         }
-        StageMachine m = Load.ran(Load.PAGE, 1, Load.SHOW, 2, Load.FILL, SHOWN, 3, Load.FILL, WORKING, 4, Load.YIELD);
+        Stage m = Load.ran(Load.PAGE, 1, Load.SHOW, 2, Load.FILL, SHOWN, 3, Load.FILL, WORKING, 4, Load.YIELD);
         m.frame(1);
         check.due("working stays", m.about(0), 1);
         check.due("shown stays", m.about(1), 2);
     }
 
     private static void wrongArguments(Check check) {
-        StageMachine m = Load.ran(Load.FILL, 0, 5, Load.FILL, 1, 5, Load.FILL, 2, 5, Load.FILL, 3, 5, Load.YIELD);
+        Stage m = Load.ran(Load.FILL, 0, 5, Load.FILL, 1, 5, Load.FILL, 2, 5, Load.FILL, 3, 5, Load.YIELD);
         for (int page : Load.EXTREMES) {
             for (int x : Load.EXTREMES) {
                 for (int y : Load.EXTREMES) {

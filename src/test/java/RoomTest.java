@@ -34,26 +34,43 @@ final class RoomTest {
         m.put(0, 8, 0x0113010A);
         m.put(0, 12, 0x0A000011);
         m.put(0, 16, 0x00110001);
-        for (int call = 5; call < calls; call++) {
-            int turn = call % 8;
-            if (turn < 4) {
+        for (int call = 6; call < calls; call++) {
+            oneCall(m, call);
+        }
+    }
+
+    private static void oneCall(StageMachine m, int call) {
+        switch (call % 13) {
+            case 0: case 1: case 2: case 3:
                 m.ask(call % 16, 0);
-            } else if (turn < 6) {
+                break;
+            case 4: case 5: case 6:
                 m.frame(6);
-            } else {
+                break;
+            case 7:
                 m.pixel(call % 4, call % 64, call % 40);
+                break;
+            case 8:
                 m.channel(call % 16, call % 5);
+                break;
+            case 9:
                 m.about(call % 6);
+                break;
+            case 10:
                 m.byteAt(call % 3, call);
+                break;
+            case 11:
                 m.set(call % 33, call);
+                break;
+            default:
                 m.get(call % 33);
-            }
+                break;
         }
     }
 
     /** All channels draw two hundred polygons of fourteen great parts, as often as a frame lets them. */
     private static void greatestFrame(Check check) {
-        StageMachine m = new StageMachine();
+        Stage m = new Stage();
         int[] group = new int[64];
         group[0] = 2;
         group[3] = 15;

@@ -23,13 +23,13 @@ final class ShapeTest {
     }
 
     /** Draws the shape at an address of the shapes at x, y, with zoom 64, in a frame of its own. */
-    private static StageMachine draw(StageMachine m, int address, int x, int y) {
+    private static Stage draw(Stage m, int address, int x, int y) {
         m.set(1, x);
         m.set(2, y);
         return Load.run(m, Load.DRAW, Load.high(address), Load.low(address), 1, 2, PLAIN, Load.YIELD);
     }
 
-    private static StageMachine zoomed(StageMachine m, int x, int y, int zoom) {
+    private static Stage zoomed(Stage m, int x, int y, int zoom) {
         m.set(1, x);
         m.set(2, y);
         m.set(3, zoom);
@@ -37,11 +37,11 @@ final class ShapeTest {
     }
 
     /** One pixel, without a box. */
-    private static void dot(StageMachine m, int address, int colour) {
+    private static void dot(Stage m, int address, int colour) {
         Load.shapes(m, address, 0xC0 | colour, 0, 0, 2, 0, 0, 0, 1, 0, 0);
     }
 
-    private static int pixels(StageMachine m, int colour) {
+    private static int pixels(Stage m, int colour) {
         int found = 0;
         for (int y = 0; y < 40; y++) {
             for (int x = 0; x < 64; x++) {
@@ -52,7 +52,7 @@ final class ShapeTest {
     }
 
     /** Row y of page 0 has the colour from x to x alone; none if the first is above the second. */
-    private static void rowIs(Check check, String of, StageMachine m, int y, int from, int to, int colour) {
+    private static void rowIs(Check check, String of, Stage m, int y, int from, int to, int colour) {
         for (int x = 0; x < 64; x++) {
             check.due(of + ", pixel " + x + ", " + y, m.pixel(0, x, y), x >= from && x <= to ? colour : 0);
         }
@@ -60,7 +60,7 @@ final class ShapeTest {
 
     private static void colours(Check check) {
         for (int t = 192; t < 256; t++) {
-            StageMachine m = new StageMachine();
+            Stage m = new Stage();
             Load.run(m, Load.FILL, 0, 3, Load.YIELD);
             Load.shapes(m, 0, t, 0, 0, 2, 0, 0, 0, 1, 0, 0);
             draw(m, 0, 5, 6);
@@ -72,7 +72,7 @@ final class ShapeTest {
     }
 
     private static void drawsIntoTheWorkingPage(Check check) {
-        StageMachine m = new StageMachine();
+        Stage m = new Stage();
         dot(m, 0, 9);
         m.set(1, 63);
         m.set(2, 39);
@@ -84,7 +84,7 @@ final class ShapeTest {
 
     private static void zoomOperands(Check check) {
         for (int z = 0; z < 256; z++) {
-            StageMachine m = new StageMachine();
+            Stage m = new Stage();
             Load.shapes(m, 0, 0xC1, 0, 0, 2, 20, 0, 20, 1, 0, 0);
             for (int v = 3; v < 32; v++) {
                 m.set(v, 64 + 4 * v);
@@ -100,7 +100,7 @@ final class ShapeTest {
     }
 
     private static void edgesOfRows(Check check) {
-        StageMachine m = new StageMachine();
+        Stage m = new Stage();
         // Right goes from 10 to 3, left from 0 to 5, in four rows.
         Load.shapes(m, 0, 0xC7, 10, 4, 2, 10, 0, 3, 4, 0, 5);
         draw(m, 0, 25, 12);
@@ -112,7 +112,7 @@ final class ShapeTest {
         rowIs(check, "below", m, 14, 1, 0, 7);
         check.due("rows", m.about(4), 4);
         // An odd box: DIV(5, 2) is 2, and a zoom of 96 makes 7 of 5, and 3 of that.
-        m = new StageMachine();
+        m = new Stage();
         Load.shapes(m, 0, 0xC7, 5, 5, 2, 5, 0, 5, 5, 0, 0);
         zoomed(m, 20, 20, 96);
         rowIs(check, "odd box", m, 16, 1, 0, 7);
@@ -122,7 +122,7 @@ final class ShapeTest {
     }
 
     private static void negativeZoom(Check check) {
-        StageMachine m = new StageMachine();
+        Stage m = new Stage();
         // With a zoom below 0 the box goes up and left: rows come from pairs whose y goes down.
         Load.shapes(m, 0, 0xC4, 5, 3, 2, 0, 3, 0, 0, 5, 5);
         zoomed(m, 30, 20, -64);
@@ -132,7 +132,7 @@ final class ShapeTest {
         rowIs(check, "upside down", m, 21, 28, 33, 4);
         rowIs(check, "upside down", m, 22, 1, 0, 4);
         // DIV(-3, 64) is -1, not 0: each byte goes one pixel on.
-        m = new StageMachine();
+        m = new Stage();
         Load.shapes(m, 0, 0xC4, 0, 0, 2, 0, 3, 0, 0, 1, 1);
         zoomed(m, 30, 20, -1);
         rowIs(check, "a little", m, 19, 29, 30, 4);
@@ -140,19 +140,19 @@ final class ShapeTest {
     }
 
     private static void greatZoom(Check check) {
-        StageMachine m = new StageMachine();
+        Stage m = new Stage();
         Load.shapes(m, 0, 0xCB, 0, 0, 2, 255, 0, 255, 255, 0, 0);
         zoomed(m, -32768, -32768, 32767);
         check.due("all pixels", pixels(m, 11), 64 * 40);
         check.due("rows", m.about(4), 40);
         // From 0, 0 down to the right with a slope of one pixel a row, though far more than 65536 long.
-        m = new StageMachine();
+        m = new Stage();
         Load.shapes(m, 0, 0xCB, 0, 0, 2, 0, 0, 255, 255, 0, 255);
         zoomed(m, 0, 0, 32767);
         for (int y = 0; y < 40; y++) {
             rowIs(check, "diagonal", m, y, y, y, 11);
         }
-        m = new StageMachine();
+        m = new Stage();
         // Left comes from -97793, -97793 and right stays at 32767.
         Load.shapes(m, 0, 0xCB, 0, 0, 2, 0, 255, 0, 0, 255, 0);
         zoomed(m, 32767, 32767, -32768);
@@ -162,14 +162,14 @@ final class ShapeTest {
     }
 
     private static void rowsThatAreNone(Check check) {
-        StageMachine m = new StageMachine();
+        Stage m = new Stage();
         // Left is above right in the first two rows of three, and equal in the last.
         Load.shapes(m, 0, 0xC6, 0, 0, 2, 4, 0, 7, 3, 6, 6);
         draw(m, 0, 10, 10);
         check.due("pixels", pixels(m, 6), 1);
         check.due("rows", m.about(4), 1);
         check.due("the last", m.pixel(0, 16, 12), 6);
-        m = new StageMachine();
+        m = new Stage();
         // Right goes 4, 5, 6, 7 and left is 6: rows 2 and 3 of four.
         Load.shapes(m, 0, 0xC6, 0, 0, 2, 4, 0, 8, 4, 6, 6);
         draw(m, 0, 10, 10);
@@ -177,7 +177,7 @@ final class ShapeTest {
         rowIs(check, "crossed", m, 11, 1, 0, 6);
         rowIs(check, "crossed", m, 12, 16, 16, 6);
         rowIs(check, "crossed", m, 13, 16, 17, 6);
-        m = new StageMachine();
+        m = new Stage();
         // Neighbours whose y stays or goes up give no row; the next two do again.
         Load.shapes(m, 0, 0xC6, 0, 0, 4, 2, 5, 2, 5, 2, 3, 2, 4, 0, 0, 0, 0);
         draw(m, 0, 10, 10);
@@ -187,7 +187,7 @@ final class ShapeTest {
 
     private static void countsOfPairs(Check check) {
         for (int n = 0; n < 256; n += 5) {
-            StageMachine m = new StageMachine();
+            Stage m = new Stage();
             int pairs = n & 15;
             int[] bytes = new int[4 + 3 * 15];
             bytes[0] = 0xC5;
@@ -206,7 +206,7 @@ final class ShapeTest {
     }
 
     private static void pairsOfOtherPolygonsAreForgotten(Check check) {
-        StageMachine m = new StageMachine();
+        Stage m = new Stage();
         Load.shapes(m, 0, 0xC5, 0, 0, 3, 1, 0, 1, 1, 1, 30, 0, 0, 0);
         Load.shapes(m, 20, 0xC8, 0, 0, 2, 1, 0, 1, 1, 0, 0);
         draw(m, 0, 10, 5);
@@ -217,7 +217,7 @@ final class ShapeTest {
     }
 
     private static void groupsPlaceParts(Check check) {
-        StageMachine m = new StageMachine();
+        Stage m = new Stage();
         dot(m, 40, 1);
         dot(m, 60, 2);
         Load.shapes(m, 0, 2, 5, 3, 0xF2, 0, 40, 0, 0, 0x7C, 60, 9, 200);
@@ -230,14 +230,14 @@ final class ShapeTest {
         draw(m, 0, 20, -190);
         check.due("bytes are never below 0", m.pixel(0, 24, 7), 2);
         // Zoom 96: DIV(5 * 1.5) = 7, DIV(3 * 1.5) = 4; and 9 is 13.
-        m = new StageMachine();
+        m = new Stage();
         Load.shapes(m, 40, 0xC1, 0, 0, 2, 0, 0, 0, 1, 0, 0);
         Load.shapes(m, 0, 2, 5, 3, 1, 0, 40, 9, 1);
         zoomed(m, 20, 10, 96);
         check.due("part with zoom 96", m.pixel(0, 20 - 7 + 13, 10 - 4 + 1), 1);
         check.due("pixels", pixels(m, 1), 1);
         // Later parts are drawn over earlier ones.
-        m = new StageMachine();
+        m = new Stage();
         dot(m, 40, 1);
         dot(m, 60, 2);
         Load.shapes(m, 0, 2, 0, 0, 2, 0, 60, 0, 0, 0, 40, 0, 0);
@@ -246,7 +246,7 @@ final class ShapeTest {
     }
 
     private static void groupColours(Check check) {
-        StageMachine m = new StageMachine();
+        Stage m = new Stage();
         dot(m, 100, 1);
         // 0: own colour 1; given 12; a group given 7: its parts get 7, or their own 0; then 1 again.
         Load.shapes(m, 0, 2, 0, 0, 4, 0, 100, 0, 0, 0x80, 100, 1, 0, 0xFC, 0x80, 40, 2, 0, 0x47, 0, 100, 5, 0);
@@ -261,7 +261,7 @@ final class ShapeTest {
     }
 
     private static void groupsInGroups(Check check) {
-        StageMachine m = new StageMachine();
+        Stage m = new Stage();
         // Seven groups in one another, each with a dot of its own one pixel to the right.
         for (int g = 0; g < 7; g++) {
             Load.shapes(m, 32 * g, 2, 0, 0, 2, 0x80, 250, 0, 0, g + 1, 0, 32 * (g + 1), 1, 0);
@@ -274,7 +274,7 @@ final class ShapeTest {
         // Five groups and their dots, and the sixth group, which is begun but not drawn.
         check.due("shapes", m.about(5), 11);
         // A polygon within five groups is drawn.
-        m = new StageMachine();
+        m = new Stage();
         for (int g = 0; g < 5; g++) {
             Load.shapes(m, 32 * g, 2, 0, 0, 1, 0, 32 * (g + 1), 1, 0);
         }
@@ -286,7 +286,7 @@ final class ShapeTest {
 
     /** A group of 15 groups of 15 parts each would be 241 shapes. */
     private static void atMostTwoHundred(Check check) {
-        StageMachine m = new StageMachine();
+        Stage m = new Stage();
         int[] outer = new int[4 + 15 * 4];
         outer[0] = 2;
         outer[3] = 15;
@@ -320,7 +320,7 @@ final class ShapeTest {
     private static void otherBytesAreNothing(Check check) {
         for (int t = 0; t < 192; t++) {
             if (t != 2) {
-                StageMachine m = new StageMachine();
+                Stage m = new Stage();
                 Load.shapes(m, 0, t, 0, 0, 2, 0, 0, 0, 1, 0, 0);
                 draw(m, 0, 5, 5);
                 check.due("rows of " + t, m.about(4), 0);
@@ -333,12 +333,12 @@ final class ShapeTest {
 
     private static void bytesGoRound(Check check) {
         for (int address = 1012; address < 1024; address++) {
-            StageMachine m = new StageMachine();
+            Stage m = new Stage();
             dot(m, address, 6);
             draw(m, address, 9, 9);
             check.due("dot at " + address, m.pixel(0, 9, 9), 6);
             check.due("pixels at " + address, pixels(m, 6), 1);
-            m = new StageMachine();
+            m = new Stage();
             dot(m, 500, 6);
             Load.shapes(m, address, 2, 1, 1, 2, 0x81, 0xF4, 3, 3, 8, 1, 0xF4, 5, 5);
             draw(m, address, 9, 9);

@@ -2,7 +2,7 @@
 final class VariablesTest {
     public static void main(String[] args) {
         Check check = new Check();
-        StageMachine m = new StageMachine();
+        Stage m = new Stage();
         for (int v = 0; v < 32; v++) {
             check.due("set(" + v + ", ..)", m.set(v, 100 + v), true);
         }
