@@ -104,10 +104,13 @@ final class FaceEdgesTest {
     /** "As at first; no frame was done." */
     private static void noFrameWasDoneAtFirst(Check check) {
         Stage m = new Stage();
-        check.due("frames", m.about(2), 0);
+        for (int what = 0; what < 6; what++) {
+            check.due("about(" + what + ") of a new object", m.about(what), 0);
+        }
         check.due("frame(1) of a new object", m.frame(1), 0);
-        check.due("frames", m.about(2), 1);
-        check.due("instructions", m.about(3), 0);
+        for (int what = 0; what < 6; what++) {
+            check.due("about(" + what + ") behind it", m.about(what), what == 2 ? 1 : 0);
+        }
     }
 
     /** "Four bytes [..] from an address on, the highest of v first: true" */

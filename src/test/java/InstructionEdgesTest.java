@@ -139,6 +139,8 @@ final class InstructionEdgesTest {
         check.due("COPY from " + p, m.pixel(3 - meant, 0, 0), 5);
         m = Load.ran(Load.PAGE, 1, Load.SHOW, 2, Load.FILL, 3 - meant, 5, Load.COPY, p, 3 - meant, Load.YIELD);
         check.due("COPY to " + p, m.pixel(meant, 0, 0), 5);
+        check.due("working page behind COPY " + p, m.about(0), 1);
+        check.due("shown page behind COPY " + p, m.about(1), 2);
         return meant;
     }
 
@@ -473,6 +475,10 @@ final class InstructionEdgesTest {
             for (int k = 0; k < 16; k++) {
                 check.due("not paused " + k, m.channel(k, 1), 0);
             }
+            m = Load.ran(Load.EACH, 5, 6, 1, Load.EACH, 6, 7, other);
+            m.frame(1);
+            check.due("what was asked before stays asked for 6", m.channel(6, 1), 1);
+            check.due("nothing asked for 7", m.channel(7, 1), 0);
         }
     }
 
@@ -557,6 +563,13 @@ final class InstructionEdgesTest {
             }
             check.due("pixels with z " + row[0], wide, row[1]);
         }
+        // 64 and no other: 255 pixels from -200 on end at 55, and 65 would make 258 of them.
+        Stage m = new Stage();
+        Load.shapes(m, 0, 0xC5, 0, 0, 2, 255, 0, 255, 1, 0, 0);
+        m.set(1, -200);
+        Load.run(m, Load.DRAW, 0, 0, 1, 2, 128, Load.YIELD);
+        check.due("the last pixel", m.pixel(0, 55, 0), 5);
+        check.due("behind it", m.pixel(0, 56, 0), 0);
     }
 
     /** "Any other byte: FAULT 5." */

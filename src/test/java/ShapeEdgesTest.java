@@ -19,6 +19,7 @@ final class ShapeEdgesTest {
         bytesAreScaledDown(check);
         heightsOfNone(check);
         lastRowIsLeftOut(check);
+        pairsBehindTheLastAreNone(check);
         stepsAreRoundedDown(check);
         edgesAreRoundedDown(check);
         firstNotAboveSecond(check);
@@ -283,6 +284,16 @@ final class ShapeEdgesTest {
         // Where two parts meet, the row is the second's.
         spansAre(check, "one row, and one", drawn(5, 6, 64, 0xC3, 0, 0, 3, 2, 0, 9, 1, 9, 2, 0, 4, 4), 3,
             6, 5, 7, 7, 9, 14);
+    }
+
+    /** "For each two neighbouring pairs": the last has no neighbour behind it, whatever was drawn before. */
+    private static void pairsBehindTheLastAreNone(Check check) {
+        Stage m = new Stage();
+        Load.shapes(m, 0, 2, 0, 0, 2, 2, 88, 0, 0, 0, 40, 20, 0);
+        Load.shapes(m, DOT, 0xC3, 0, 0, 4, 1, 0, 1, 1, 1, 2, 1, 3, 0, 0, 0, 0);
+        Load.shapes(m, 40, 0xC3, 0, 0, 2, 1, 0, 1, 1, 0, 0, 1, 9, 1, 12);
+        spansAre(check, "two pairs behind four", draw(m, 0, 5, 6, 64), 3, 6, 5, 6, 7, 5, 6, 8, 5, 6, 6, 25, 26);
+        spansAre(check, "one pair", drawn(5, 6, 64, 0xC3, 0, 0, 1, 1, 0, 1, 1, 0, 0), 3, NOTHING);
     }
 
     /** "j * DIV(65536 * (L(i+1) - Li), H)" and "the same of R" */
