@@ -6,6 +6,7 @@ final class AboutTest {
         countsOfTheLatestFrame(check);
         countsOverAllChannels(check);
         rowsOnThePageCount(check);
+        rowsThatAreColouredTwiceCountTwice(check);
         check.finish();
     }
 
@@ -71,5 +72,15 @@ final class AboutTest {
             check.due("rows at " + place[0] + ", " + place[1], m.about(4), place[2]);
             check.due("shapes at " + place[0] + ", " + place[1], m.about(5), 1);
         }
+    }
+
+    /** The pairs go from 0 down to 4, back to 1, and down to 6: rows 0 .. 3, then 1 .. 5. */
+    private static void rowsThatAreColouredTwiceCountTwice(Check check) {
+        Stage m = new Stage();
+        Load.shapes(m, 0, 0xC9, 0, 0, 4, 3, 0, 3, 4, 3, 1, 3, 6, 0, 0, 0, 0);
+        Load.run(m, Load.DRAW, 0, 0, 1, 2, 255, Load.YIELD);
+        check.due("rows of a polygon that goes back", m.about(4), 9);
+        check.due("its last row", m.pixel(0, 3, 5), 9);
+        check.due("below it", m.pixel(0, 3, 6), 0);
     }
 }
